@@ -978,17 +978,15 @@ public final class ParcelRegistry {
       }
     }
 
+    /** One that ends by the merge follows it, too: it ends as one on or for the merged parcel. */
     void followMerge(int one, int other, int merged, int day) {
       for (int number = 0; number < count; number++) {
         if (lastDay[number] == NONE) {
-          int lies = on[number] == one || on[number] == other ? merged : on[number];
-          int helps = serves[number] == one || serves[number] == other ? merged : serves[number];
-          // One that would lie on the parcel that it serves ends where it lay.
-          if (lies == helps) {
+          on[number] = on[number] == one || on[number] == other ? merged : on[number];
+          serves[number] =
+              serves[number] == one || serves[number] == other ? merged : serves[number];
+          if (on[number] == serves[number]) {
             lastDay[number] = day;
-          } else {
-            on[number] = lies;
-            serves[number] = helps;
           }
         }
       }

@@ -11,6 +11,7 @@ final class EasementTest {
     splittingWithoutRoom();
     followingMerges();
     endingBySelfService();
+    endingOfCopies();
     endingOfTwins();
     endedOnesStay();
     reaching();
@@ -168,10 +169,35 @@ final class EasementTest {
     DUE.answers("live ones", 1, () -> x.account(6));
     DUE.answers("last day of one", 9, () -> x.easement(0, 4));
     DUE.answers("last day of the other", 9, () -> x.easement(1, 4));
-    DUE.answers("it ends where it lay", 0, () -> x.easement(0, 1));
-    DUE.answers("and for which it lay", 1, () -> x.easement(0, 2));
+    easementIs(x, 0, 0, 3, 3, 0, 9);
+    easementIs(x, 1, 1, 3, 3, 0, 9);
+    easementIs(x, 2, 1, 3, 2, 0, -1);
     DUE.answers("on the merged", 4, () -> x.easements(3, true));
     DUE.answers("for the merged", 0, () -> x.easements(3, false));
+    x.undo();
+    easementIs(x, 0, 0, 0, 1, 0, -1);
+    easementIs(x, 1, 1, 1, 0, 0, -1);
+  }
+
+  private static void endingOfCopies() {
+    ParcelRegistry x = withParcels(3);
+    x.border(1, 2, true);
+    x.addEasement(0, 0, 1);
+    x.addEasement(0, 2, 1);
+    x.advance(4);
+    x.split(1, 35, 0);
+    x.advance(3);
+    DUE.answers("merge a part and the parcel of its copy", 5, () -> x.merge(4, 2));
+    easementIs(x, 0, 0, 0, 3, 0, -1);
+    easementIs(x, 1, 0, 5, 3, 0, -1);
+    easementIs(x, 2, 0, 0, 5, 4, -1);
+    easementIs(x, 3, 0, 5, 5, 4, 7);
+    DUE.answers("the ended one is on nothing live", 2, () -> x.easements(5, true));
+    x.addParcel(50, 0);
+    x.border(5, 6, true);
+    DUE.answers("merge again", 7, () -> x.merge(5, 6));
+    easementIs(x, 1, 0, 7, 3, 0, -1);
+    easementIs(x, 3, 0, 5, 5, 4, 7);
   }
 
   private static void endingOfTwins() {
@@ -192,7 +218,8 @@ final class EasementTest {
     DUE.answers("on the merged", 4 | 16, () -> x.easements(6, true));
     DUE.answers("for the merged", 32, () -> x.easements(6, false));
     DUE.answers("last day of a twin", 2, () -> x.easement(3, 4));
-    DUE.answers("a twin is on the merged", 6, () -> x.easement(3, 1));
+    easementIs(x, 3, 2, 6, 3, 0, 2);
+    easementIs(x, 6, 2, 3, 6, 0, 2);
     DUE.answers("the lowest stays", -1, () -> x.easement(2, 4));
     DUE.answers("live ones", 5, () -> x.account(6));
   }

@@ -354,12 +354,12 @@ final class Model {
       if (e.last != -1 || !onIt && !forIt) {
         continue;
       }
+      e.on = onIt ? merged : e.on;
+      e.serves = forIt ? merged : e.serves;
       if (onIt && forIt) {
         e.last = now.day;
         continue;
       }
-      e.on = onIt ? merged : e.on;
-      e.serves = forIt ? merged : e.serves;
       List<Integer> what = List.of(e.kind, e.on, e.serves);
       if (seen.contains(what)) {
         e.last = now.day;
