@@ -1072,7 +1072,7 @@ public final class ParcelRegistry {
     }
 
     void moveBack(int place, int behind) {
-      if (place < 0 || place >= ranked || behind >= ranked) {
+      if (place < 0 || behind < place || behind >= ranked) {
         return;
       }
       int number = ranking[place];

@@ -63,6 +63,7 @@ final class FaceTest {
     List<String> lines = Files.readAllLines(Path.of(SOURCE));
     wordsThatAreRuledOut(lines);
     nothingIsMadeInCalls(lines);
+    methodsAreShort(lines);
     DUE.finish();
   }
 
@@ -150,6 +151,10 @@ final class FaceTest {
             !isStatic || Modifier.isFinal(field.getModifiers()));
       }
       DUE.isTrue(type.getName() + " has at most twenty fields", own <= 20);
+      for (Method method : type.getDeclaredMethods()) {
+        DUE.isTrue(method.getName() + " takes at most seven parameters",
+            method.getParameterCount() <= 7);
+      }
     }
   }
 
@@ -183,5 +188,21 @@ final class FaceTest {
       boolean isMaking = line.matches(".*\\bnew \\w+[\\[(<].*") && !line.contains("throw new ");
       DUE.isTrue("line " + (k + 1) + " makes nothing in a call", !isMaking || isField || isConstructor);
     }
+  }
+
+  /** A method ends with the first line of its own indentation that is a brace. */
+  private static void methodsAreShort(List<String> lines) {
+    int methods = 0;
+    for (int k = 0; k < lines.size(); k++) {
+      String line = lines.get(k);
+      if (line.matches("(  |    )[a-z]\\w* .*\\(.*") && !line.contains(";")) {
+        String end = line.replaceFirst("\\S.*", "}");
+        int last = k + lines.subList(k, lines.size()).indexOf(end);
+        DUE.isTrue("line " + (k + 1) + " begins a method of at most sixty lines",
+            last > k && last - k < 60);
+        methods++;
+      }
+    }
+    DUE.isTrue("the lines have the methods of the face and more", methods > 2 * FACE.length);
   }
 }
